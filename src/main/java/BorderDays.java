@@ -3,8 +3,8 @@ import java.util.NoSuchElementException;
 /**
  * Places with borders and names by the day, old maps placed by marks, findspots masked by grids.
  *
- * <p>All sums are exact: a point's coordinates are at most 10000 away from 0, so that every
- * product of two differences fits an int, and all that is larger is counted in longs.
+ * <p>All sums are exact: a point's coordinates are at most 10000 away from 0, so that a
+ * square of a distance fits an int, and all that may be larger is counted in longs.
  */
 public final class BorderDays {
     public static final int NONE = -1;
@@ -381,15 +381,19 @@ public final class BorderDays {
         }
 
         int leastSquareTo(Shape other) {
-            int least = Integer.MAX_VALUE;
+            int least = squareBetween(0, other, 0);
             for (int i = 0; i < count; i++) {
                 for (int j = 0; j < other.count; j++) {
-                    int dx = xs[i] - other.xs[j];
-                    int dy = ys[i] - other.ys[j];
-                    least = Math.min(least, dx * dx + dy * dy);
+                    least = Math.min(least, squareBetween(i, other, j));
                 }
             }
             return least;
+        }
+
+        private int squareBetween(int corner, Shape other, int otherCorner) {
+            int dx = xs[corner] - other.xs[otherCorner];
+            int dy = ys[corner] - other.ys[otherCorner];
+            return dx * dx + dy * dy;
         }
 
         private int next(int i) {

@@ -230,6 +230,10 @@ public final class PromisesTest {
         dueClosing(false, 0, 0, 6, 0, 6, 3, 5, 0, 1, 0, 0, 3);
         // a corner on the line through another one, but behind its end
         dueClosing(true, 0, 0, 4, 0, 4, 4, 6, 4, 6, 0, 8, 0, 8, 8, 0, 8);
+        // lines that cross as near to a corner as can be
+        dueClosing(false, 0, 0, 1, 0, 0, 1, 1, 1);
+        dueClosing(false, 0, 0, 5, 1, 5, 0, 4, 1);
+        dueClosing(false, 0, 0, 5, 1, 4, 1, 5, 0);
         dueClosing(false, -10000, -10000, 10000, 10000, 10000, -10000, -10000, 10000);
         dueClosing(true, -10000, -10000, 10000, 10000, 9999, 10000);
         dueClosing(false, 0, 0, 2, 0, 2, 1, 4, 1, 4, 0, 6, 0, 6, 3, 4, 3, 4, 2, 2, 2, 2, 3, 3, 0);
@@ -475,6 +479,9 @@ public final class PromisesTest {
         closed(b, 3, 0, 9, -10000, 10000, -10000, -10000, 10000, -10000, 10000, 10000, 9999, 10000,
                 9999, -9999, -9999, -9999, -9999, 10000);
         due("along three sides of all", 119996, () -> b.area(3, 0));
+        closed(b, 3, 7, 7, 10, 10, 12, 10, 12, 11, 14, 11, 14, 10, 16, 10, 16, 13, 14, 13, 14, 12, 12, 12,
+                12, 13, 10, 13);
+        due("with twelve corners", 28, () -> b.area(3, 7));
     }
 
     private static void misfit() {
@@ -522,6 +529,26 @@ public final class PromisesTest {
         square(alone, 0, 0, 9, 0, 0, 1);
         square(alone, 2, 0, 9, 50, 50, 1);
         due("without a parent", NONE, () -> alone.misfit(0, 5));
+        misfitOfSixteen();
+    }
+
+    private static void misfitOfSixteen() {
+        BorderDays b = new BorderDays();
+        for (int i = 0; i < 16; i++) {
+            b.place(i - 1);
+        }
+        square(b, 14, 0, 9, 10, 20, 10);
+        due("without a shape of its own", NONE, () -> b.misfit(0, 5));
+        closed(b, 15, 0, 9, 10, 20, 20, 20, 15, 30);
+        due("far from 0, 0", NONE, () -> b.misfit(0, 5));
+        closed(b, 15, 6, 9, 12, 20, 14, 20, 14, 21, 16, 21, 16, 20, 18, 20, 18, 23, 16, 23, 16, 22, 14, 22,
+                14, 23, 12, 23);
+        due("with twelve corners", NONE, () -> b.misfit(0, 6));
+        closed(b, 15, 7, 7, 12, 22, 12, 12, 18, 28);
+        due("the last place, with a y too low", 15, () -> b.misfit(0, 7));
+        closed(b, 15, 8, 8, 12, 22, 22, 22, 18, 28);
+        due("the last place, with an x too high", 15, () -> b.misfit(0, 8));
+        due("there is one alone", NONE, () -> b.misfit(1, 8));
     }
 
     private static void distance() {
@@ -733,11 +760,27 @@ public final class PromisesTest {
         // 0, 1, 3 go before 1, 2, 3 for a point in both
         duePlaced(b, 5000, 0, 5000, 10000);
         duePlaced(b, 0, 5000, 0, 5000);
+        placedInTheLeast(new int[] {0, 0, 1, 0, 0, 1});
+        placedInTheLeast(new int[] {0, 0, 0, 1, 1, 0});
         BorderDays one = new BorderDays();
         one.mark(0, 0, 42, -17);
         one.mark(7, 1, 42, -17);
         one.mark(2, 9, 42, -17);
         duePlaced(one, 3, 3, 42, -17);
+    }
+
+    /** A triangle of which no point but its three marks is placed. */
+    private static void placedInTheLeast(int[] map) {
+        BorderDays b = new BorderDays();
+        for (int i = 0; i < 6; i += 2) {
+            b.mark(map[i], map[i + 1], 7 + map[i], -5 - map[i + 1]);
+        }
+        for (int x = -2; x <= 2; x++) {
+            for (int y = -2; y <= 2; y++) {
+                boolean marked = x >= 0 && y >= 0 && x + y <= 1;
+                duePlaced(b, x, y, marked ? 7 + x : STATE, marked ? -5 - y : STATE);
+            }
+        }
     }
 
     private static void masked() {
