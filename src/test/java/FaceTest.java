@@ -1,45 +1,66 @@
+import java.io.IOException;
 import java.lang.reflect.Constructor;
+import java.lang.reflect.Executable;
 import java.lang.reflect.Field;
 import java.lang.reflect.Method;
 import java.lang.reflect.Modifier;
 import java.util.ArrayList;
 import java.util.Arrays;
+import java.util.Collection;
 import java.util.List;
 import java.util.TreeSet;
+import java.util.stream.Collectors;
 
 /** The public face of the document, whole and with nothing more. */
 public final class FaceTest {
-    private static final String N = " java.util.NoSuchElementException";
-    private static final String A = " java.lang.IllegalArgumentException";
-    private static final String S = " java.lang.IllegalStateException";
+    private static final String N = "NoSuchElementException";
+    private static final String A = "IllegalArgumentException";
+    private static final String S = "IllegalStateException";
 
     private static final List<String> FACE = List.of(
-            "int place(1)" + N + S,
-            "int shape(3)" + N + A + S,
-            "int corner(3)" + N + A + S,
-            "boolean close(1)" + N,
-            "boolean unsure(2)" + N,
-            "int force(2)" + N + A,
-            "int inside(4)" + N + A,
-            "int threeWay(4)" + N + A,
-            "int area(2)" + N + A,
-            "int misfit(2)" + N + A,
-            "int distance(3)" + N + A,
-            "void name(4)" + N + A + S,
-            "int nameOn(2)" + N + A,
-            "int mark(4)" + A + S,
-            "int placed(3)" + N + A + S,
-            "int masked(4)" + N + A);
+            "BorderDays()",
+            "int place(int) throws " + N + ", " + S,
+            "int shape(int, int, int) throws " + N + ", " + A + ", " + S,
+            "int corner(int, int, int) throws " + N + ", " + A + ", " + S,
+            "boolean close(int) throws " + N,
+            "boolean unsure(int, int) throws " + N,
+            "int force(int, int) throws " + N + ", " + A,
+            "int inside(int, int, int, int) throws " + N + ", " + A,
+            "int threeWay(int, int, int, int) throws " + N + ", " + A,
+            "int area(int, int) throws " + N + ", " + A,
+            "int misfit(int, int) throws " + N + ", " + A,
+            "int distance(int, int, int) throws " + N + ", " + A,
+            "void name(int, int, int, int) throws " + N + ", " + A + ", " + S,
+            "int nameOn(int, int) throws " + N + ", " + A,
+            "int mark(int, int, int, int) throws " + A + ", " + S,
+            "int placed(int, int, int) throws " + N + ", " + A + ", " + S,
+            "int masked(int, int, int, int) throws " + N + ", " + A);
 
-    public static void main(String[] args) throws Exception {
-        int modifiers = BorderDays.class.getModifiers();
-        Check.due("the class is public and final", true,
-                () -> Modifier.isPublic(modifiers) && Modifier.isFinal(modifiers));
+    public static void main(String[] args) throws IOException {
+        List<String> written = Face.entries().stream().map(Face.Entry::signature).toList();
+        Check.due("the document's face", sorted(FACE), () -> sorted(written));
+        Check.due("the document's constants", "[static final int NONE = -1]", () -> constants());
+        Check.due("the class", "public final", () -> Modifier.toString(BorderDays.class.getModifiers()));
+        Check.due("what it extends", Object.class, BorderDays.class::getSuperclass);
+        Check.due("what it implements", "[]", () -> Arrays.toString(BorderDays.class.getInterfaces()));
         Check.due("NONE", -1, () -> BorderDays.NONE);
         Check.due("the fields", "[public static final int NONE]", () -> openFields());
-        Check.due("the constructors", "[public BorderDays()]", () -> openConstructors());
-        Check.due("the methods", new TreeSet<>(FACE), () -> openMethods());
+        Check.due("the constructor and methods", sorted(written), () -> sorted(openMembers()));
+        Check.due("the classes inside", "private static, or package-visible and static", () -> classesInside());
+        Check.due("private methods with a public one's name", "[]", () -> privateMethodsNamedAsPublic());
         Check.end("FaceTest");
+    }
+
+    private static TreeSet<String> sorted(Collection<String> texts) {
+        return new TreeSet<>(texts);
+    }
+
+    private static List<String> constants() {
+        try {
+            return Face.constants();
+        } catch (IOException e) {
+            throw new IllegalStateException(e);
+        }
     }
 
     private static boolean isOpen(int modifiers, boolean synthetic) {
@@ -56,35 +77,51 @@ public final class FaceTest {
         return found;
     }
 
-    private static List<String> openConstructors() {
+    private static List<String> openMembers() {
         List<String> found = new ArrayList<>();
         for (Constructor<?> c : BorderDays.class.getDeclaredConstructors()) {
             if (isOpen(c.getModifiers(), c.isSynthetic())) {
-                found.add(c.toString());
+                found.add(told(c, ""));
             }
         }
-        return found;
-    }
-
-    private static TreeSet<String> openMethods() {
-        TreeSet<String> found = new TreeSet<>();
         for (Method m : BorderDays.class.getDeclaredMethods()) {
             if (isOpen(m.getModifiers(), m.isSynthetic())) {
-                found.add(told(m));
+                found.add(told(m, m.getReturnType().getName() + " "));
             }
         }
         return found;
     }
 
-    private static String told(Method m) {
-        boolean instance = !Modifier.isStatic(m.getModifiers()) && Modifier.isPublic(m.getModifiers());
-        boolean ints = Arrays.stream(m.getParameterTypes()).allMatch(type -> type == int.class);
-        StringBuilder text = new StringBuilder(instance && ints ? "" : "not of the face: ");
-        text.append(m.getReturnType().getName()).append(' ').append(m.getName());
-        text.append('(').append(m.getParameterCount()).append(')');
-        for (Class<?> thrown : m.getExceptionTypes()) {
-            text.append(' ').append(thrown.getName());
+    /** Written as the document's members are; one that is not simply public has its modifiers before it. */
+    private static String told(Executable e, String answer) {
+        String modifiers = Modifier.toString(e.getModifiers());
+        String thrown = names(e.getExceptionTypes());
+        return (modifiers.equals("public") ? "" : "[" + modifiers + "] ") + answer + e.getName()
+                + "(" + names(e.getParameterTypes()) + ")" + (thrown.isEmpty() ? "" : " throws " + thrown);
+    }
+
+    private static String names(Class<?>[] types) {
+        return Arrays.stream(types).map(Class::getSimpleName).collect(Collectors.joining(", "));
+    }
+
+    private static String classesInside() {
+        for (Class<?> inside : BorderDays.class.getDeclaredClasses()) {
+            int modifiers = inside.getModifiers();
+            if (Modifier.isPublic(modifiers) || Modifier.isProtected(modifiers) || !Modifier.isStatic(modifiers)) {
+                return Modifier.toString(modifiers) + " " + inside.getSimpleName();
+            }
         }
-        return text.toString();
+        return "private static, or package-visible and static";
+    }
+
+    private static List<String> privateMethodsNamedAsPublic() {
+        List<String> found = new ArrayList<>();
+        for (Method m : BorderDays.class.getDeclaredMethods()) {
+            boolean named = FACE.stream().anyMatch(member -> member.contains(" " + m.getName() + "("));
+            if (named && Modifier.isPrivate(m.getModifiers())) {
+                found.add(m.getName());
+            }
+        }
+        return found;
     }
 }

@@ -3,7 +3,6 @@ import java.util.Random;
 /** Runs of 512 drawn calls each, always the same ones, with every answer held against the model's. */
 public final class ModelTest {
     private static final int RUNS = 3000;
-    private static final int CALLS = 512;
     private static final int ENOUGH_WRONG = 20;
 
     private final Random random;
@@ -15,6 +14,7 @@ public final class ModelTest {
     /** The field's middle; not always 0, 0, where a corner that was never set would lie. */
     private final int middle;
     private final int lastDay;
+    private int calls = 0;
 
     private ModelTest(int seed) {
         random = new Random(seed);
@@ -32,12 +32,35 @@ public final class ModelTest {
     }
 
     private void go() {
+        if (random.nextInt(4) == 0) {
+            fill();
+        }
         for (int i = random.nextInt(6); i > 0; i--) {
             place();
         }
-        int calls = 5;
-        while (calls < CALLS - 20 && Check.wrongSoFar() < ENOUGH_WRONG) {
-            calls += random.nextInt(12) == 0 ? wholeShape() : oneCall();
+        while (callsLeft() > 0 && Check.wrongSoFar() < ENOUGH_WRONG) {
+            if (random.nextInt(12) == 0) {
+                wholeShape();
+            } else {
+                oneCall();
+            }
+        }
+    }
+
+    private int callsLeft() {
+        return Run.MOST_CALLS - calls;
+    }
+
+    /** Drawn calls alone seldom come to the last place, name and mark, and to one more. */
+    private void fill() {
+        for (int i = 0; i < 17; i++) {
+            place();
+        }
+        for (int i = 0; i < 50; i++) {
+            name(aPlace(), aDay());
+        }
+        for (int i = 0; i < 14; i++) {
+            mark(aValue(), aValue(), aValue(), aValue());
         }
     }
 
@@ -77,8 +100,12 @@ public final class ModelTest {
         return mostly(random.nextInt(random.nextInt(4) == 0 ? 5 : 2));
     }
 
-    private void due(String call, Check.Call want, Check.Call got) {
-        Check.due(run + ": " + call, Check.told(want), got);
+    /** Answers what was due. */
+    private String due(String call, Check.Call want, Check.Call got) {
+        calls++;
+        String due = Check.told(want);
+        Check.due(run + ", call " + calls + ": " + call, due, got);
+        return due;
     }
 
     private void place() {
@@ -103,29 +130,30 @@ public final class ModelTest {
     }
 
     /** A ring of corners by their angle, which mostly can be closed, or of any corners, which mostly cannot. */
-    private int wholeShape() {
+    private void wholeShape() {
         int place = aPlace();
-        String made = Check.told(() -> model.shape(place, 0, lastDay));
-        Check.due(run + ": shape(" + place + ", 0, " + lastDay + ")", made, () -> program.shape(place, 0, lastDay));
+        String call = "shape(" + place + ", 0, " + lastDay + ")";
+        String made = due(call, () -> model.shape(place, 0, lastDay), () -> program.shape(place, 0, lastDay));
         if (made.startsWith("throws")) {
-            return 1;
+            return;
         }
         int number = Integer.parseInt(made);
         int count = 3 + random.nextInt(random.nextInt(3) == 0 ? 10 : 3);
         boolean ring = random.nextInt(4) != 0;
         double start = random.nextDouble() * 7;
         double step = (random.nextBoolean() ? 2 : -2) * Math.PI / count;
-        for (int i = 0; i < count; i++) {
+        for (int i = 0; i < count && callsLeft() > 0; i++) {
             double far = reach * (0.4 + 0.6 * random.nextDouble());
             int x = ring ? middle + (int) Math.round(far * Math.cos(start + i * step)) : aValue();
             int y = ring ? middle + (int) Math.round(far * Math.sin(start + i * step)) : aValue();
             corner(number, x, y);
         }
-        close(number);
-        return count + 2;
+        if (callsLeft() > 0) {
+            close(number);
+        }
     }
 
-    private int oneCall() {
+    private void oneCall() {
         switch (random.nextInt(18)) {
             case 0 -> place();
             case 1 -> shape(aPlace());
@@ -144,7 +172,6 @@ public final class ModelTest {
             case 16 -> placed(aValue(), aValue(), mostly(random.nextInt(2)));
             default -> masked(aValue(), aValue(), mostly(1 + random.nextInt(Math.min(10000, reach * 2))));
         }
-        return 1;
     }
 
     private void unsure(int a, int b) {
